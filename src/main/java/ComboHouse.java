@@ -102,8 +102,10 @@ public final class ComboHouse {
         if (needed > steps || needed > MOST_STEPS || program.allCells() > cells) {
             return -2;
         }
-        if (defined) {
-            defineJets();
+        for (int i = 0; i < program.count && defined; i++) {
+            if (program.code[i] == JET) {
+                code.define(program.detail[i]);
+            }
         }
         if (!machine.works(program, tape, defined)) {
             return -1;
@@ -117,14 +119,6 @@ public final class ComboHouse {
             usedSteps = machine.spentSteps();
         }
         return publish();
-    }
-
-    private void defineJets() {
-        for (int i = 0; i < program.count; i++) {
-            if (program.code[i] == JET) {
-                code.define(program.detail[i]);
-            }
-        }
     }
 
     private int publish() {
@@ -407,20 +401,30 @@ public final class ComboHouse {
             return length;
         }
 
+        /** Nodes and jets have three digits at most. */
         void putNumber(int n) {
-            int unit = 1;
-            for (int i = 0; i < 9 && n / unit >= 10; i++) {
-                unit *= 10;
+            if (n >= 100) {
+                put('0' + n / 100 % 10);
             }
-            for (int i = 0; i < 10 && unit > 0; i++) {
-                put('0' + n / unit % 10);
-                unit /= 10;
+            if (n >= 10) {
+                put('0' + n / 10 % 10);
             }
+            put('0' + n % 10);
         }
 
         void putText(String text) {
             for (int i = 0; i < text.length(); i++) {
                 put(text.charAt(i));
+            }
+        }
+
+        /** A word of eight letters at most, told as one number. */
+        void putLetters(long letters) {
+            for (int i = 56; i >= 0; i -= 8) {
+                int b = (int) (letters >>> i) & 255;
+                if (b != 0) {
+                    put(b);
+                }
             }
         }
 
@@ -611,7 +615,7 @@ public final class ComboHouse {
             pen.put('n');
             pen.putNumber(n);
             pen.putText(" = ");
-            pen.putText(Speech.wordOf(code[n]));
+            pen.putLetters(Speech.TONGUE[code[n]]);
             writeChild(first[n], pen);
             writeChild(second[n], pen);
             if (code[n] == JET) {
@@ -1073,7 +1077,9 @@ public final class ComboHouse {
             }
             int t = count;
             count++;
-            fix(t, k, l, r);
+            kind[t] = k;
+            left[t] = l;
+            right[t] = r;
             up[t] = t;
             found[t] = UNSEEN;
             return t;
@@ -1334,7 +1340,13 @@ public final class ComboHouse {
             at = 0;
             end = 8 * row.size;
             fault = 0;
-            readNodes();
+            int count = readNatural();
+            if (fault == 0 && count > NODES) {
+                fault = 4;
+            }
+            for (int i = 0; i < count && fault == 0; i++) {
+                readNode();
+            }
             if (fault != 0) {
                 return fault;
             }
@@ -1351,16 +1363,6 @@ public final class ComboHouse {
             }
             readWitness();
             return fault;
-        }
-
-        private void readNodes() {
-            int count = readNatural();
-            if (fault == 0 && count > NODES) {
-                fault = 4;
-            }
-            for (int i = 0; i < count && fault == 0; i++) {
-                readNode();
-            }
         }
 
         private void readNode() {
@@ -1635,6 +1637,12 @@ public final class ComboHouse {
         private static final int CLOSE = 4;
         private static final int PLAIN = 5;
 
+        /** Letters of the words, by code: comp case pair left right take drop iden unit fail and so on. */
+        static final long[] TONGUE = {
+            0x636f6d70L, 0x63617365L, 0x70616972L, 0x6c656674L, 0x7269676874L, 0x74616b65L, 0x64726f70L,
+            0x6964656eL, 0x756e6974L, 0x6661696cL, 0x7769746e657373L, 0x68696464656eL, 0x6a6574L, 0x6e6577L
+        };
+
         private static final int REFUSED = -1;
         private static final int UNFINISHED = -2;
         private static final int BRACKET = -3;
@@ -1655,43 +1663,14 @@ public final class ComboHouse {
         private int kind;
         private int from;
         private int to;
+        /** The letters of a word that can be a name, else 0. */
+        private long name;
+        /** The code that a word of the tongue tells, or NEW, else -1. */
+        private int code;
         private int fault;
 
         Speech(Order order) {
             this.order = order;
-        }
-
-        static String wordOf(int code) {
-            switch (code) {
-                case COMP:
-                    return "comp";
-                case CASE:
-                    return "case";
-                case PAIR:
-                    return "pair";
-                case LEFT:
-                    return "left";
-                case RIGHT:
-                    return "right";
-                case TAKE:
-                    return "take";
-                case DROP:
-                    return "drop";
-                case IDEN:
-                    return "iden";
-                case UNIT:
-                    return "unit";
-                case FAIL:
-                    return "fail";
-                case WITNESS:
-                    return "witness";
-                case HIDDEN:
-                    return "hidden";
-                case JET:
-                    return "jet";
-                default:
-                    return "new";
-            }
         }
 
         /** 0, and the pen has the program's bytes; or the first error that holds. */
@@ -1706,11 +1685,13 @@ public final class ComboHouse {
             for (int i = 0; i < HEADS; i++) {
                 head[i] = -1;
             }
-            readDefinitions();
+            for (int turn = 0; turn < TEXT && fault == 0 && readDefinition(); turn++) {
+                continue;
+            }
             if (fault != 0) {
                 return fault;
             }
-            int last = named[nameCount - 1];
+            int last = nameCount > 0 ? named[nameCount - 1] : 0;
             order.walk(program, last);
             int error = order.judge(program);
             if (error != 0) {
@@ -1730,35 +1711,31 @@ public final class ComboHouse {
             return pen.over ? 4 : 0;
         }
 
-        private void readDefinitions() {
-            for (int turn = 0; turn < TEXT && fault == 0; turn++) {
-                nextWord();
-                if (kind == END && nameCount > 0) {
-                    return;
-                }
-                readDefinition();
+        /** Whether one was there, and another may be. */
+        private boolean readDefinition() {
+            nextWord();
+            if (kind == END && nameCount > 0) {
+                return false;
             }
-        }
-
-        private void readDefinition() {
-            long name = nameHere();
-            if (name == 0) {
+            long told = name;
+            if (told == 0) {
                 refuse(1, from);
-                return;
+                return false;
             }
-            if (nodeOf(name) >= 0) {
+            if (nodeOf(told) >= 0) {
                 refuse(2, from);
-                return;
+                return false;
             }
             nextWord();
             if (kind != EQUALS) {
                 refuse(1, from);
-                return;
+                return false;
             }
             int n = readExpression();
             if (n >= 0) {
-                keepName(name, n);
+                keepName(told, n);
             }
+            return n >= 0;
         }
 
         private int refuse(int error, int where) {
@@ -1769,6 +1746,8 @@ public final class ComboHouse {
 
         /** Words are taken as they are looked for, so that a strange byte is met in its turn alone. */
         private void nextWord() {
+            name = 0;
+            code = -1;
             from = to;
             while (from < text.size && (text.at(from) == 10 || text.at(from) == 32)) {
                 from++;
@@ -1793,6 +1772,7 @@ public final class ComboHouse {
                 while (to < text.size && isPlain(text.at(to))) {
                     to++;
                 }
+                spell();
             }
         }
 
@@ -1800,54 +1780,38 @@ public final class ComboHouse {
             return b > 32 && b < 127 && b != '=' && b != '(' && b != ')';
         }
 
-        /** The word's letters as one number, or 0 when it can't be a name. */
-        private long nameHere() {
-            if (kind != PLAIN || to - from > 8 || codeHere() >= 0) {
-                return 0;
+        /** Finds whether the word is one of the tongue, or can be a name. */
+        private void spell() {
+            if (to - from > 8) {
+                return;
             }
-            long name = 0;
+            long letters = 0;
             for (int i = from; i < to; i++) {
                 int b = text.at(i);
                 boolean isLetter = b >= 'a' && b <= 'z';
                 boolean isDigit = b >= '0' && b <= '9';
                 if (!isLetter && (!isDigit || i == from)) {
-                    return 0;
+                    return;
                 }
-                name = name << 8 | b;
+                letters = letters << 8 | b;
             }
-            return name;
-        }
-
-        /** The code that the word tells, NEW, or -1. */
-        private int codeHere() {
-            for (int code = 0; code <= NEW; code++) {
-                if (isHere(wordOf(code))) {
-                    return code;
+            for (int i = 0; i <= NEW; i++) {
+                if (TONGUE[i] == letters) {
+                    code = i;
+                    return;
                 }
             }
-            return -1;
+            name = letters;
         }
 
-        private boolean isHere(String word) {
-            if (kind != PLAIN || word.length() != to - from) {
-                return false;
-            }
-            for (int i = 0; i < word.length(); i++) {
-                if (text.at(from + i) != word.charAt(i)) {
-                    return false;
-                }
-            }
-            return true;
+        private static int slotOf(long letters) {
+            return (int) (letters * 0x9e3779b97f4a7c15L >>> 40) & HEADS - 1;
         }
 
-        private static int slotOf(long name) {
-            return (int) (name * 0x9e3779b97f4a7c15L >>> 40) & HEADS - 1;
-        }
-
-        private int nodeOf(long name) {
-            int at = head[slotOf(name)];
+        private int nodeOf(long letters) {
+            int at = head[slotOf(letters)];
             for (int i = 0; i < NAMES && at >= 0; i++) {
-                if (names[at] == name) {
+                if (names[at] == letters) {
                     return named[at];
                 }
                 at = next[at];
@@ -1856,10 +1820,10 @@ public final class ComboHouse {
         }
 
         /** A definition takes four bytes at least, so that there is room for all names. */
-        private void keepName(long name, int n) {
+        private void keepName(long letters, int n) {
             if (nameCount < NAMES) {
-                int slot = slotOf(name);
-                names[nameCount] = name;
+                int slot = slotOf(letters);
+                names[nameCount] = letters;
                 named[nameCount] = n;
                 next[nameCount] = head[slot];
                 head[slot] = nameCount;
@@ -1892,21 +1856,34 @@ public final class ComboHouse {
         /** The node that the next word completes, UNFINISHED when an E is wanted behind it, or REFUSED. */
         private int begin() {
             nextWord();
+            int where = from;
+            int told = code;
             if (kind == OPEN) {
                 return await(BRACKET);
             }
-            int code = codeHere();
-            if (code == NEW) {
-                return renew();
+            if (told == NEW) {
+                nextWord();
+                int old = readName();
+                return old < 0 ? old : renew(old, where);
             }
-            if (code >= 0) {
-                return make(code);
+            if (told < 0) {
+                return readName();
             }
-            return readName();
+            if (program.count >= MADE) {
+                return refuse(3, from);
+            }
+            int n = program.add(told);
+            if (told <= DROP) {
+                return await(n);
+            }
+            if (told >= WITNESS) {
+                nextWord();
+                return readOperand(n, told);
+            }
+            return n;
         }
 
         private int readName() {
-            long name = nameHere();
             if (name == 0) {
                 return refuse(1, from);
             }
@@ -1914,22 +1891,11 @@ public final class ComboHouse {
             return n < 0 ? refuse(2, from) : n;
         }
 
-        private int make(int code) {
-            if (program.count >= MADE) {
-                return refuse(3, from);
-            }
-            int n = program.add(code);
-            if (code <= DROP) {
-                return await(n);
-            }
-            if (code < WITNESS) {
-                return n;
-            }
-            nextWord();
+        private int readOperand(int n, int told) {
             boolean good = kind == PLAIN;
-            if (good && code == WITNESS) {
+            if (good && told == WITNESS) {
                 good = readRow(n);
-            } else if (good && code == HIDDEN) {
+            } else if (good && told == HIDDEN) {
                 good = readHidden(n);
             } else if (good) {
                 good = readJet(n);
@@ -1982,13 +1948,8 @@ public final class ComboHouse {
             return number < JET_COUNT;
         }
 
-        private int renew() {
-            int where = from;
-            nextWord();
-            int old = readName();
-            if (old < 0) {
-                return old;
-            }
+        /** Copies all that the name's node comes to, or nothing of it. */
+        private int renew(int old, int where) {
             order.walk(program, old);
             if (program.count + order.size > MADE) {
                 return refuse(3, where);
@@ -2120,6 +2081,8 @@ public final class ComboHouse {
             WORD, WORD
         };
 
+        private static final long SIGN = 1L << 63;
+
         private int w;
         private long ones;
         /** What stands ahead of the words: a bit that is carried, or how far to move. */
@@ -2142,8 +2105,10 @@ public final class ComboHouse {
             low = 0;
             if (k < 7) {
                 reckon(k);
+            } else if (k < 9) {
+                multiply();
             } else if (k < 12) {
-                multiplyOrDivide(k);
+                divide(k);
             } else if (k < 19) {
                 compareWords(k);
             } else if (k < 23) {
@@ -2241,11 +2206,7 @@ public final class ComboHouse {
             bit = (~a & b | (~a | b) & rest) >>> w - 1 & 1;
         }
 
-        private void multiplyOrDivide(int k) {
-            if (k < 9) {
-                multiply();
-                return;
-            }
+        private void divide(int k) {
             long dividend = k == 11 ? y : x;
             long divisor = k == 11 ? x : y;
             long times = divisor == 0 ? 0 : quotient(dividend, divisor);
@@ -2278,7 +2239,7 @@ public final class ComboHouse {
         }
 
         private static boolean isBelow(long a, long b) {
-            return (a ^ Long.MIN_VALUE) < (b ^ Long.MIN_VALUE);
+            return (a ^ SIGN) < (b ^ SIGN);
         }
 
         private static long quotient(long a, long b) {
@@ -2380,7 +2341,7 @@ public final class ComboHouse {
         }
 
         private void moveBits(int k) {
-            int n = lead % w;
+            int n = lead & w - 1;
             switch (k) {
                 case 32:
                     low = lead >= w ? 0 : x << lead & ones;
@@ -2427,11 +2388,11 @@ public final class ComboHouse {
 
     /** What the machine works: the loaded program's nodes, and behind them the jets' definitions. */
     private static final class Code {
-        static final int ROOM = 16000;
+        static final int ROOM = 8000;
         private static final int LEVELS = 7;
         private static final int ADD = 0;
         private static final int SUBTRACT = 1;
-        private static final int SHIFT = 2;
+        private static final int RAISE = 2;
         private static final int MULTIPLY = 3;
         private static final int SOME = 4;
         private static final int ALL = 5;
@@ -2447,14 +2408,24 @@ public final class ComboHouse {
         private static final int FLIP = 15;
         private static final int COUNT = 16;
         private static final int AHEAD = 17;
-        private static final int PIECES = 18;
+        private static final int TOP = 18;
+        private static final int NEXT = 19;
+        /** From here on pieces are made of others, not of themselves. */
+        private static final int LONGER = 20;
+        private static final int STEP = 21;
+        private static final int DIVIDE = 22;
+        private static final int SAME = 23;
+        private static final int BELOW = 24;
+        private static final int LESSER = 25;
+        private static final int GREATER = 26;
+        private static final int PIECES = 27;
 
         final int[] op = new int[ROOM];
         final int[] one = new int[ROOM];
         final int[] two = new int[ROOM];
-        /** A place that the node's types set: what it skips or copies; of a JET its number. */
+        /** What the node's types set: bits to be skipped, or to be given; of a JET its number. */
         final int[] skip = new int[ROOM];
-        /** The same for CASE's second child; bits of a WITNESS; what a JET takes in steps. */
+        /** What CASE skips for its second child, and IDEN ahead; a WITNESS's bits, a JET's steps. */
         final int[] other = new int[ROOM];
         /** Where each jet's definition begins, 0 without one. */
         final int[] definition = new int[JET_COUNT];
@@ -2471,56 +2442,107 @@ public final class ComboHouse {
             other[n] = otherwise;
         }
 
-        private int add(int kind, int s, int t, int skipped, int wide, int given) {
+        /** All definitions together have room; the last place is there for none. */
+        private int add(int kind, int s, int t, int skipped, int otherwise, int wide, int given) {
             int n = count < ROOM ? count : ROOM - 1;
             count = n + 1;
-            place(n, kind, s, t, skipped, skipped);
+            op[n] = kind;
+            one[n] = s;
+            two[n] = t;
+            skip[n] = skipped;
+            other[n] = otherwise;
             source[n] = wide;
             target[n] = given;
             return n;
         }
 
+        /*
+         * The machine sees rows of bits alone. So what only names a part of a row, or puts neighbours
+         * together as they are, is no work, and nodes that do no more than that are left out here.
+         */
+
         private int iden(int wide) {
-            return add(IDEN, -1, -1, wide, wide, wide);
+            return add(IDEN, -1, -1, wide, 0, wide, wide);
         }
 
         private int unit(int wide) {
-            return add(UNIT, -1, -1, 0, wide, 0);
+            return add(UNIT, -1, -1, 0, 0, wide, 0);
         }
 
         private int bit(int value, int wide) {
-            return add(value == 0 ? LEFT : RIGHT, unit(wide), -1, 0, wide, 1);
+            int nothing = add(UNIT, -1, -1, 0, 0, wide, 0);
+            return add(value == 0 ? LEFT : RIGHT, nothing, -1, 0, 0, wide, 1);
         }
 
         private int comp(int s, int t) {
-            return add(COMP, s, t, target[s], source[s], target[t]);
+            if (op[t] == IDEN && skip[t] == target[s]) {
+                return s;
+            }
+            if (op[s] == IDEN) {
+                return widened(drop(other[s], t), source[s]);
+            }
+            if (op[s] == UNIT) {
+                return widened(t, source[s]);
+            }
+            return add(COMP, s, t, target[s], 0, source[s], target[t]);
         }
 
         private int pair(int s, int t) {
-            return add(PAIR, s, t, target[s], source[s], target[s] + target[t]);
+            int given = target[s] + target[t];
+            if (op[t] == UNIT) {
+                return s;
+            }
+            if (op[s] == IDEN && op[t] == IDEN && other[t] == other[s] + skip[s]) {
+                return add(IDEN, -1, -1, given, other[s], source[s], given);
+            }
+            if (isZeros(s) && isZeros(t)) {
+                return add(LEFT, one[s], -1, given - 1, 0, source[s], given);
+            }
+            return add(PAIR, s, t, target[s], 0, source[s], given);
+        }
+
+        private boolean isZeros(int n) {
+            return op[n] == LEFT && op[one[n]] == UNIT;
         }
 
         private int take(int s, int behind) {
-            return add(TAKE, s, -1, 0, source[s] + behind, target[s]);
+            return add(op[s], one[s], two[s], skip[s], other[s], source[s] + behind, target[s]);
         }
 
         private int drop(int ahead, int s) {
-            return add(DROP, s, -1, ahead, ahead + source[s], target[s]);
+            int wide = ahead + source[s];
+            if (ahead == 0) {
+                return s;
+            }
+            if (op[s] == IDEN) {
+                return add(IDEN, -1, -1, skip[s], ahead + other[s], wide, target[s]);
+            }
+            if (op[s] == DROP) {
+                return add(DROP, one[s], -1, ahead + skip[s], 0, wide, target[s]);
+            }
+            return add(DROP, s, -1, ahead, 0, wide, target[s]);
+        }
+
+        /** The same of a longer row, whose end is not looked at. */
+        private int widened(int n, int wide) {
+            return source[n] == wide ? n : add(op[n], one[n], two[n], skip[n], other[n], wide, target[n]);
         }
 
         /** By a bit that stands ahead: CASE's children get a ONE ahead, which they drop. */
         private int choose(int whenZero, int whenOne) {
             int s = drop(0, whenZero);
             int t = drop(0, whenOne);
-            return add(CASE, s, t, 1, 1 + source[whenZero], target[whenZero]);
+            return add(CASE, s, t, 1, 1, 1 + source[s], target[s]);
         }
 
+        /** TAKE IDEN. */
         private int first(int wide, int behind) {
-            return take(iden(wide), behind);
+            return add(IDEN, -1, -1, wide, 0, wide + behind, wide);
         }
 
+        /** DROP IDEN. */
         private int second(int ahead, int wide) {
-            return drop(ahead, iden(wide));
+            return add(IDEN, -1, -1, wide, ahead, ahead + wide, wide);
         }
 
         void define(int number) {
@@ -2535,6 +2557,8 @@ public final class ComboHouse {
                 definition[number] = comparing(k, level);
             } else if (k < 32) {
                 definition[number] = testing(k, level);
+            } else if (k < 36) {
+                definition[number] = barrel(k, level);
             } else {
                 definition[number] = moving(k, level);
             }
@@ -2570,29 +2594,29 @@ public final class ComboHouse {
             int swapped = pair(second(w, w), first(w, w));
             switch (k) {
                 case 9:
-                    int quotient = comp(division(level), first(w, w));
+                    int quotient = comp(piece(DIVIDE, level), first(w, w));
                     return comp(pair(drop(w, piece(SOME, level)), iden(2 * w)),
                             choose(zeros(level, 2 * w), quotient));
                 case 10:
-                    return comp(division(level), second(w, w));
+                    return comp(piece(DIVIDE, level), second(w, w));
                 case 11:
-                    int rest = comp(division(level), second(w, w));
+                    int rest = comp(piece(DIVIDE, level), second(w, w));
                     return comp(swapped, comp(rest, comp(piece(SOME, level), piece(NOT, 0))));
                 case 12:
-                    return same(level);
+                    return piece(SAME, level);
                 case 13:
-                    return below(level);
+                    return piece(BELOW, level);
                 case 14:
-                    return comp(swapped, comp(below(level), piece(NOT, 0)));
+                    return comp(swapped, comp(piece(BELOW, level), piece(NOT, 0)));
                 case 15:
                     int flip = piece(FLIP, level);
-                    return comp(pair(take(flip, w), drop(w, flip)), below(level));
+                    return comp(pair(take(flip, w), drop(w, flip)), piece(BELOW, level));
                 case 16:
-                    return lesser(level);
+                    return piece(LESSER, level);
                 case 17:
-                    return greater(level);
+                    return piece(GREATER, level);
                 default:
-                    return middle(level);
+                    return middle(piece(LESSER, level), piece(GREATER, level), w);
             }
         }
 
@@ -2602,12 +2626,11 @@ public final class ComboHouse {
                 case 19:
                     return comp(piece(SOME, level), piece(NOT, 0));
                 case 20:
-                    int half = w / 2;
                     int last = bit(1, w);
-                    for (int h = 0; h < level; h++) {
-                        last = pair(zeros(h, w), last);
+                    for (int l = 0; l < level; l++) {
+                        last = pair(zeros(l, w), last);
                     }
-                    return half > 0 ? comp(pair(iden(w), last), same(level)) : last;
+                    return comp(pair(iden(w), last), piece(SAME, level));
                 case 21:
                     return piece(ALL, level);
                 case 22:
@@ -2636,11 +2659,6 @@ public final class ComboHouse {
         private int moving(int k, int level) {
             int w = 1 << level;
             switch (k) {
-                case 32:
-                case 33:
-                case 34:
-                case 35:
-                    return barrel(k, level);
                 case 36:
                     return piece(COUNT, level);
                 case 37:
@@ -2662,10 +2680,35 @@ public final class ComboHouse {
             if (level < 0 || level >= LEVELS) {
                 return NODES;
             }
-            if (pieces[slot] == 0) {
+            if (pieces[slot] != 0) {
+                return pieces[slot];
+            }
+            if (what >= LONGER) {
+                pieces[slot] = joinedPiece(what, level, 1 << level);
+            } else {
                 pieces[slot] = level == 0 ? leafPiece(what) : greaterPiece(what, level);
             }
             return pieces[slot];
+        }
+
+        private int joinedPiece(int what, int level, int w) {
+            switch (what) {
+                case LONGER:
+                    int twice = pair(second(1, w), piece(RAISE, level));
+                    return pair(drop(1, piece(TOP, level)), comp(twice, piece(NEXT, level)));
+                case STEP:
+                    return divisionStep(level, w);
+                case DIVIDE:
+                    return division(level, w);
+                case SAME:
+                    return comp(piece(XOR, level), comp(piece(SOME, level), piece(NOT, 0)));
+                case BELOW:
+                    return comp(pair(bit(0, 2 * w), iden(2 * w)), comp(piece(SUBTRACT, level), first(1, w)));
+                case LESSER:
+                    return comp(pair(piece(BELOW, level), iden(2 * w)), choose(second(w, w), first(w, w)));
+                default:
+                    return comp(pair(piece(BELOW, level), iden(2 * w)), choose(first(w, w), second(w, w)));
+            }
         }
 
         private int leafPiece(int what) {
@@ -2676,8 +2719,10 @@ public final class ComboHouse {
                 case SUBTRACT:
                     return choose(choose(pair(iden(1), iden(1)), pair(bit(0, 1), piece(NOT, 0))),
                             choose(pair(bit(1, 1), piece(NOT, 0)), pair(iden(1), iden(1))));
-                case SHIFT:
-                    return pair(second(1, 1), first(1, 1));
+                case RAISE:
+                    return first(1, 1);
+                case NEXT:
+                    return second(1, 1);
                 case MULTIPLY:
                     return comp(pair(take(piece(AND, 0), 2), second(2, 2)), piece(ADD, 0));
                 case AND:
@@ -2714,9 +2759,14 @@ public final class ComboHouse {
             switch (what) {
                 case ADD:
                 case SUBTRACT:
-                    return ripple(part, 2, h);
-                case SHIFT:
-                    return ripple(part, 1, h);
+                    return ripple(part, h);
+                case RAISE:
+                    int ahead = comp(pair(first(1, 2 * h), drop(1, first(h, h))), part);
+                    return pair(ahead, drop(1, second(h, h)));
+                case TOP:
+                    return take(part, h);
+                case NEXT:
+                    return pair(take(part, 2 * h), comp(middleHalves(h), part));
                 case MULTIPLY:
                     return product(part, h);
                 case SOME:
@@ -2745,8 +2795,9 @@ public final class ComboHouse {
             }
         }
 
+        /** Of any row: what a UNIT ahead gives is no bits, so that none are left out. */
         private int zeros(int level, int wide) {
-            return comp(unit(wide), piece(ZEROS, level));
+            return widened(piece(ZEROS, level), wide);
         }
 
         /** The higher or the lower halves of words of 2 h bits: of x, of (x, y), of (x, (y, z)). */
@@ -2763,13 +2814,12 @@ public final class ComboHouse {
             return pair(comp(halves(words, h, false), part), comp(halves(words, h, true), part));
         }
 
-        /** (c, words) to (c, word): the lower halves ahead, and what they carry goes to the higher ones. */
-        private int ripple(int part, int words, int h) {
-            int m = words * h;
-            int lower = comp(pair(first(1, 2 * m), drop(1, halves(words, h, true))), part);
-            int begun = pair(lower, drop(1, halves(words, h, false)));
-            int higher = comp(pair(take(first(1, h), m), second(1 + h, m)), part);
-            int done = pair(higher, take(second(1, h), m));
+        /** (c, (x, y)) to (c, word): the lower halves ahead; what they carry goes to the higher ones. */
+        private int ripple(int part, int h) {
+            int lower = comp(pair(first(1, 4 * h), drop(1, halves(2, h, true))), part);
+            int begun = pair(lower, drop(1, halves(2, h, false)));
+            int higher = comp(pair(take(first(1, h), 2 * h), second(1 + h, 2 * h)), part);
+            int done = pair(higher, take(second(1, h), 2 * h));
             int told = pair(take(first(1, h), h), pair(take(second(1, h), h), second(1 + h, h)));
             return comp(begun, comp(done, told));
         }
@@ -2800,9 +2850,8 @@ public final class ComboHouse {
         }
 
         /** (x, y) to x divided by y and its rest, a bit of x at a time; by 0 the rest is x. */
-        private int division(int level) {
-            int w = 1 << level;
-            int part = divisionStep(level, w);
+        private int division(int level, int w) {
+            int part = piece(STEP, level);
             for (int l = 0; l < level; l++) {
                 int h = 1 << l;
                 int higher = comp(pair(take(first(h, h), 2 * w), second(2 * h, 2 * w)), part);
@@ -2818,7 +2867,7 @@ public final class ComboHouse {
 
         /** (next bit of x, (rest, y)) to (bit of the quotient, rest). */
         private int divisionStep(int level, int w) {
-            int longer = comp(pair(first(1, 2 * w), drop(1, first(w, w))), piece(SHIFT, level));
+            int longer = comp(pair(first(1, 2 * w), drop(1, first(w, w))), piece(LONGER, level));
             int begun = pair(longer, drop(1, second(w, w)));
             int less = comp(pair(bit(0, 1 + 2 * w), pair(take(second(1, w), w), second(1 + w, w))),
                     piece(SUBTRACT, level));
@@ -2831,29 +2880,10 @@ public final class ComboHouse {
             return comp(begun, comp(tried, comp(told, chosen)));
         }
 
-        private int same(int level) {
-            return comp(piece(XOR, level), comp(piece(SOME, level), piece(NOT, 0)));
-        }
-
-        private int below(int level) {
-            int w = 1 << level;
-            return comp(pair(bit(0, 2 * w), iden(2 * w)), comp(piece(SUBTRACT, level), first(1, w)));
-        }
-
-        private int lesser(int level) {
-            int w = 1 << level;
-            return comp(pair(below(level), iden(2 * w)), choose(second(w, w), first(w, w)));
-        }
-
-        private int greater(int level) {
-            int w = 1 << level;
-            return comp(pair(below(level), iden(2 * w)), choose(first(w, w), second(w, w)));
-        }
-
-        private int middle(int level) {
-            int w = 1 << level;
-            int sorted = pair(drop(w, lesser(level)), pair(first(w, 2 * w), drop(w, greater(level))));
-            return comp(sorted, comp(pair(first(w, 2 * w), drop(w, lesser(level))), greater(level)));
+        /** Of (x, (y, z)): the greater one of the lesser of y and z, and of the lesser of x and the other. */
+        private int middle(int lesser, int greater, int w) {
+            int sorted = pair(drop(w, lesser), pair(first(w, 2 * w), drop(w, greater)));
+            return comp(sorted, comp(pair(first(w, 2 * w), drop(w, lesser)), greater));
         }
 
         /** A bit with seven 0s ahead. */
@@ -2876,24 +2906,27 @@ public final class ComboHouse {
                     choose(drop(h, comp(part, more)), take(part, h)));
         }
 
-        private int eightBits(int number, int wide) {
-            int high = fourBits(number >> 4, wide);
-            return pair(high, fourBits(number, wide));
-        }
-
-        private int fourBits(int number, int wide) {
-            int high = pair(bit(number >> 3 & 1, wide), bit(number >> 2 & 1, wide));
-            return pair(high, pair(bit(number >> 1 & 1, wide), bit(number & 1, wide)));
+        private int eightBits(int n, int wide) {
+            int a = pair(bit(n >> 7 & 1, wide), bit(n >> 6 & 1, wide));
+            int b = pair(bit(n >> 5 & 1, wide), bit(n >> 4 & 1, wide));
+            int c = pair(bit(n >> 3 & 1, wide), bit(n >> 2 & 1, wide));
+            int d = pair(bit(n >> 1 & 1, wide), bit(n & 1, wide));
+            return pair(pair(a, b), pair(c, d));
         }
 
         /** (n, x): for each bit of n that is 1, x is moved by what this bit counts. */
         private int barrel(int k, int level) {
             int w = 1 << level;
+            int ahead = k == 33 ? zeros(level, w) : iden(w);
+            int behind = k == 32 ? zeros(level, w) : iden(w);
             int all = iden(8 + w);
             for (int j = 0; j < 8; j++) {
+                int moved = zeros(level, w);
+                if (j < level) {
+                    moved = comp(pair(ahead, behind), window(level, j, k == 33 || k == 35));
+                }
                 if (j < level || k < 34) {
-                    int moved = choose(iden(w), moveBy(k, level, j));
-                    int chosen = comp(pair(take(bitOfByte(j), w), second(8, w)), moved);
+                    int chosen = comp(pair(take(bitOfByte(j), w), second(8, w)), choose(iden(w), moved));
                     all = comp(all, pair(first(8, w), chosen));
                 }
             }
@@ -2904,17 +2937,6 @@ public final class ComboHouse {
             int inner = (j & 1) != 0 ? first(1, 1) : second(1, 1);
             inner = (j & 2) != 0 ? take(inner, 2) : drop(2, inner);
             return (j & 4) != 0 ? take(inner, 4) : drop(4, inner);
-        }
-
-        private int moveBy(int k, int level, int j) {
-            int w = 1 << level;
-            if (j >= level) {
-                return zeros(level, w);
-            }
-            boolean right = k == 33 || k == 35;
-            int ahead = k == 33 ? zeros(level, w) : iden(w);
-            int behind = k == 32 ? zeros(level, w) : iden(w);
-            return comp(pair(ahead, behind), window(level, j, right));
         }
 
         /** Of (a, b) as many bits as a has, from 2^j on, or (for the right) from 2^j ahead of b on. */
@@ -3125,6 +3147,7 @@ public final class ComboHouse {
             switch (code.op[node]) {
                 case IDEN:
                     spent += skip;
+                    from += code.other[node];
                     copyCells(skip);
                     return true;
                 case WITNESS:
