@@ -1685,8 +1685,9 @@ public final class ComboHouse {
             for (int i = 0; i < HEADS; i++) {
                 head[i] = -1;
             }
-            for (int turn = 0; turn < TEXT && fault == 0 && readDefinition(); turn++) {
-                continue;
+            boolean more = true;
+            for (int turn = 0; turn < TEXT && more; turn++) {
+                more = readDefinition();
             }
             if (fault != 0) {
                 return fault;
@@ -2442,7 +2443,7 @@ public final class ComboHouse {
             other[n] = otherwise;
         }
 
-        /** All definitions together have room; the last place is there for none. */
+        /** There is room for the definitions of all jets together. */
         private int add(int kind, int s, int t, int skipped, int otherwise, int wide, int given) {
             int n = count < ROOM ? count : ROOM - 1;
             count = n + 1;
@@ -2795,7 +2796,7 @@ public final class ComboHouse {
             }
         }
 
-        /** Of any row: what a UNIT ahead gives is no bits, so that none are left out. */
+        /** A UNIT and then the word: what UNIT gives is no bits, so that it can be left out. */
         private int zeros(int level, int wide) {
             return widened(piece(ZEROS, level), wide);
         }

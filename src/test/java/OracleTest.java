@@ -1,3 +1,4 @@
+import java.math.BigInteger;
 import java.util.ArrayList;
 import java.util.Arrays;
 import java.util.HashMap;
@@ -19,7 +20,7 @@ public final class OracleTest {
     }
 
     public static void main(String[] args) {
-        int cases = args.length > 0 ? Integer.parseInt(args[0]) : 1500;
+        int cases = args.length > 0 ? Integer.parseInt(args[0]) : 800;
         int seed = args.length > 1 ? Integer.parseInt(args[1]) : 1;
         for (int i = 0; i < cases; i++) {
             random = new Random(new Random(seed * 1000003L + i).nextLong());
@@ -62,6 +63,14 @@ public final class OracleTest {
         }
     }
 
+    /** Rows that go over the ends of the words that a machine may keep them in. */
+    private static Oracle.Type manyWords(int depth) {
+        if (depth > 0 && any(8) > 0) {
+            return Oracle.product(manyWords(depth - 1), manyWords(depth - 1));
+        }
+        return any(6) == 0 ? Oracle.sum(Oracle.ONE, Oracle.word(1 << any(7))) : Oracle.word(1 << any(7));
+    }
+
     private static Oracle.Node add(int code, Oracle.Node a, Oracle.Node b) {
         Oracle.Node n = new Oracle.Node();
         n.code = code;
@@ -73,8 +82,12 @@ public final class OracleTest {
 
     private static Oracle.Node hidden() {
         Oracle.Node n = add(11, null, null);
-        char c = "01".charAt(any(2));
-        n.bits = ("" + c).repeat(255) + any(2);
+        Random few = new Random(any(4));
+        StringBuilder s = new StringBuilder();
+        while (s.length() < 256) {
+            s.append(few.nextInt(2));
+        }
+        n.bits = any(5) == 0 ? spoiltBits(s.toString()).substring(0, 256) : s.toString();
         return n;
     }
 
@@ -262,8 +275,9 @@ public final class OracleTest {
         if (any(4) == 0) {
             last = untyped(1 + any(6));
         } else {
-            Oracle.Type source = randomType(3);
-            last = typed(source, randomType(3), 1 + any(7));
+            boolean wide = any(4) == 0;
+            Oracle.Type source = wide ? manyWords(3) : randomType(3);
+            last = typed(source, wide ? manyWords(3) : randomType(3), 1 + any(wide ? 12 : 7));
             last = any(3) == 0 ? last : add(0, pin(source), last);
         }
         fillRows(last);
@@ -339,8 +353,8 @@ public final class OracleTest {
             text.append(" ").append(n.bits.isEmpty() ? "-" : n.bits);
         }
         if (n.code == 11) {
-            text.append(" ").append(n.bits.charAt(0) == '0' ? "0".repeat(63) : "f".repeat(63));
-            text.append(n.bits.endsWith("1") ? n.bits.startsWith("1") ? "f" : "1" : n.bits.startsWith("1") ? "e" : "0");
+            String hex = new BigInteger(n.bits, 2).toString(16);
+            text.append(" ").append("0".repeat(64 - hex.length())).append(hex);
         }
         if (n.code == 12) {
             text.append(" ").append(any(5) == 0 ? String.format("%03d", n.number) : "" + n.number);
