@@ -17,6 +17,7 @@ public final class PromiseTest {
         runDeep();
         node();
         roots();
+        manyHidden();
         type();
         sayForm();
         sayNames();
@@ -427,6 +428,33 @@ public final class PromiseTest {
         Checks.due("another program's root", Checks.build(y, "a = fail"), 0);
         Checks.due("root of fail", y.root(0, 0), Oracle.leaf(9)[0] & 0xffffffffL);
         Checks.due("and its type's", y.typeRoot(0, true, 0), one[0] & 0xffffffffL);
+    }
+
+    /** A CASE for each, as many as 400 nodes have room for. */
+    private static void manyHidden() {
+        StringBuilder s = new StringBuilder(Oracle.naturalBits(399) + number(8, 5));
+        java.util.Random random = new java.util.Random(5);
+        for (int i = 0; i < 199; i++) {
+            s.append(number(11, 5));
+            for (int k = 0; k < 256; k++) {
+                s.append(random.nextInt(2));
+            }
+            s.append(number(1, 5)).append(Oracle.naturalBits(2)).append(Oracle.naturalBits(1));
+        }
+        s.append("0");
+        ComboHouse x = new ComboHouse();
+        Checks.due("load", load(x, s.toString()), 0);
+        Oracle.Prog p = new Oracle().load(Checks.bits(s.toString()));
+        for (int i : new int[] {1, 2, 3, 199, 397, 398}) {
+            int[] want = Oracle.root(p.nodes.get(i));
+            for (int k = 0; k < 8; k++) {
+                Checks.due("root of " + i, x.root(i, k), want[k] & 0xffffffffL);
+            }
+        }
+        Checks.due("width", x.look(1), 199);
+        Checks.due("left all the way", run(x, "0".repeat(199), false), 0);
+        Checks.due("steps", x.look(13), 200);
+        Checks.due("right at last", run(x, "0".repeat(198) + "1", false), -1);
     }
 
     // ---- promise 9
