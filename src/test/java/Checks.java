@@ -5,6 +5,7 @@ import java.util.Arrays;
 final class Checks {
     private static int wrong;
     private static int right;
+    private static String test = "";
 
     private Checks() {
     }
@@ -15,7 +16,18 @@ final class Checks {
         } else {
             wrong++;
             if (wrong < 100) {
-                System.out.println(what + " answered " + got + ", due is " + want);
+                System.out.println(test + what + " answered " + got + ", due is " + want);
+            }
+        }
+    }
+
+    static void due(String what, String got, String want) {
+        if (got.equals(want)) {
+            right++;
+        } else {
+            wrong++;
+            if (wrong < 100) {
+                System.out.println(test + what + " is " + got + ", due is " + want);
             }
         }
     }
@@ -26,7 +38,7 @@ final class Checks {
         } else {
             wrong++;
             if (wrong < 100) {
-                System.out.println(what + " answered " + show(got) + ", due is " + show(want));
+                System.out.println(test + what + " answered " + show(got) + ", due is " + show(want));
             }
         }
     }
@@ -61,14 +73,48 @@ final class Checks {
             got = e.getClass().getName();
         }
         wrong++;
-        System.out.println(what + " gave " + got + ", due is " + kind.getName());
+        System.out.println(test + what + " gave " + got + ", due is " + kind.getName());
+    }
+
+    /** The call throws just this exception, and nothing that can be looked at has changed. */
+    static void dueRefused(String what, House x, Class<? extends RuntimeException> kind, Call call) {
+        String before = x.state();
+        dueThrows(what, kind, call);
+        due("state behind " + what, x.state(), before);
+    }
+
+    /** One sentence of the document, by its name; what it throws is wrong, but ends this test alone. */
+    static void test(String name, Runnable body) {
+        test = name + ": ";
+        try {
+            body.run();
+        } catch (RuntimeException | StackOverflowError e) {
+            wrong++;
+            System.out.println(test + "threw " + e + at(e));
+        }
+        test = "";
+    }
+
+    /** Where in a test it is. */
+    static String at(Throwable e) {
+        StackTraceElement[] trace = e.getStackTrace();
+        for (StackTraceElement t : trace) {
+            if (t.getClassName().endsWith("Test")) {
+                return " at " + t;
+            }
+        }
+        return "";
+    }
+
+    static String shown(String text) {
+        return text.length() > 120 ? text.substring(0, 120) + ".." : text;
     }
 
     static byte[] bytes(String text) {
         return text.getBytes(StandardCharsets.ISO_8859_1);
     }
 
-    static void feed(ComboHouse x, byte[] bytes) {
+    static void feed(House x, byte[] bytes) {
         x.wipe();
         for (int i = 0; i < bytes.length; i += 8) {
             int n = Math.min(8, bytes.length - i);
@@ -80,7 +126,7 @@ final class Checks {
         }
     }
 
-    static byte[] out(ComboHouse x) {
+    static byte[] out(House x) {
         byte[] bytes = new byte[x.look(8)];
         for (int i = 0; i < bytes.length; i += 8) {
             long v = x.out(i);
@@ -91,18 +137,18 @@ final class Checks {
         return bytes;
     }
 
-    static int say(ComboHouse x, String text) {
+    static int say(House x, String text) {
         feed(x, bytes(text));
         return x.say();
     }
 
-    static int load(ComboHouse x, byte[] bytes) {
+    static int load(House x, byte[] bytes) {
         feed(x, bytes);
         return x.load();
     }
 
     /** Says and loads: what load answers. */
-    static int build(ComboHouse x, String text) {
+    static int build(House x, String text) {
         due("say " + text, say(x, text), 0);
         x.again();
         return x.load();

@@ -8,18 +8,20 @@ public final class JetTest {
     }
 
     public static void main(String[] args) {
-        ComboHouse x = new ComboHouse();
         for (int number = 0; number < 168; number++) {
-            Checks.due("load jet " + number, Checks.build(x, "a = jet " + number), 0);
+            House x = House.of("a = jet " + number);
             int wide = x.look(1);
             for (int i = 0; i < 60; i++) {
+                if (x.left() < 50) {
+                    x = House.of("a = jet " + number);
+                }
                 check(x, number, input(number, wide, i));
             }
         }
         Checks.end();
     }
 
-    private static void check(ComboHouse x, int number, String in) {
+    private static void check(House x, int number, String in) {
         byte[] want = Checks.bits(Oracle.jet(number, in));
         int given = Oracle.jet(number, in).length();
         Checks.feed(x, Checks.bits(in));

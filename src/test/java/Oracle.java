@@ -1126,7 +1126,20 @@ final class Oracle {
         return last;
     }
 
+    /** How many bytes the program's text has, however many these are. */
+    int sizeOf(byte[] bytes) {
+        return bytesOf(encodeProgram(said(bytes))).length;
+    }
+
     byte[] say(byte[] bytes) {
+        byte[] text = bytesOf(encodeProgram(said(bytes)));
+        if (text.length > 8192) {
+            throw new Refused(4, 0);
+        }
+        return text;
+    }
+
+    private List<Node> said(byte[] bytes) {
         Node last = parse(bytes);
         List<Node> nodes = ordered(last);
         judge(nodes);
@@ -1159,10 +1172,6 @@ final class Oracle {
                 throw new Refused(11, 0);
             }
         }
-        byte[] text = bytesOf(encodeProgram(left));
-        if (text.length > 8192) {
-            throw new Refused(4, 0);
-        }
-        return text;
+        return left;
     }
 }

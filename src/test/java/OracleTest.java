@@ -12,9 +12,14 @@ public final class OracleTest {
     private static Random random;
     private static Oracle oracle;
     private static List<Oracle.Node> made;
-    private static ComboHouse house;
+    private static House house;
     private static int runs;
     private static int place;
+    /** What OUT is to be, and the program that is loaded. */
+    private static byte[] out;
+    private static byte[] loaded;
+    /** Rows and texts that are longer take too many of an object's calls. */
+    private static final int LONG = 1400;
 
     private OracleTest() {
     }
@@ -26,8 +31,8 @@ public final class OracleTest {
             random = new Random(new Random(seed * 1000003L + i).nextLong());
             oracle = new Oracle();
             if (i % 10 == 0) {
-                house = new ComboHouse();
-                runs = 0;
+                house = null;
+                loaded = null;
             }
             String speech = randomSpeech();
             checkSpeech(speech);
@@ -42,6 +47,33 @@ public final class OracleTest {
 
     private static int any(int n) {
         return random.nextInt(n);
+    }
+
+    /** So many calls can be made: else of a new object, to which the same program is loaded. */
+    private static void ready(int calls) {
+        if (house == null || house.left() < calls) {
+            house = new House();
+            runs = 0;
+            out = new byte[0];
+            if (loaded != null) {
+                Checks.due("load once more", Checks.load(house, loaded), 0);
+            }
+        }
+    }
+
+    /** OUT is as due: all of it, or, when it is long, here and there. */
+    private static void sameOut(String what) {
+        Checks.due("size of " + what, house.look(8), out.length);
+        if (house.look(8) != out.length) {
+            return;
+        }
+        for (int k = 0; k < out.length; k += out.length > 600 ? 8 + any(out.length / 20) : 8) {
+            long eight = 0;
+            for (int i = 7; i >= 0; i--) {
+                eight = eight << 8 | (k + i < out.length ? out[k + i] & 255 : 0);
+            }
+            Checks.due(what + " from " + k, house.out(k), eight);
+        }
     }
 
     // ---- programs of nodes
@@ -386,15 +418,14 @@ public final class OracleTest {
 
     private static void checkSpeech(String speech) {
         byte[] bytes = Checks.bytes(speech);
-        if (bytes.length > 8192) {
+        if (bytes.length > LONG) {
             return;
         }
-        byte[] before = Checks.out(house);
-        byte[] want = before;
+        ready(300);
         int error = 0;
         place = 0;
         try {
-            want = oracle.say(bytes);
+            out = oracle.say(bytes);
         } catch (Oracle.Refused e) {
             error = e.error;
             place = e.place;
@@ -402,13 +433,13 @@ public final class OracleTest {
         Checks.due("say " + speech, Checks.say(house, speech), error);
         Checks.due("place of " + speech, house.look(14), place);
         Checks.due("tape after say", house.look(7), 0);
-        Checks.due("out of " + speech, Checks.out(house), want);
+        sameOut("out of " + speech);
     }
 
     // ---- programs of bytes
 
     private static void checkBytes() {
-        byte[] good = Checks.out(house);
+        byte[] good = out;
         checkLoad(good);
         for (int k = 0; k < 10; k++) {
             byte[] bad = good.clone();
@@ -425,6 +456,10 @@ public final class OracleTest {
     }
 
     private static void checkLoad(byte[] bytes) {
+        if (bytes.length > LONG) {
+            return;
+        }
+        ready(220);
         oracle = new Oracle();
         Oracle.Prog p = null;
         int error = 0;
@@ -440,11 +475,13 @@ public final class OracleTest {
         if (p == null) {
             Checks.due("program stays", house.look(0), before);
         } else {
+            loaded = bytes;
             checkProgram(p, bytes);
         }
     }
 
     private static void checkProgram(Oracle.Prog p, byte[] bytes) {
+        ready(100);
         Oracle.Node last = p.last();
         Checks.due("look 0", house.look(0), p.nodes.size());
         Checks.due("look 1", house.look(1), oracle.width(last.s));
@@ -454,14 +491,18 @@ public final class OracleTest {
         Checks.due("look 5", house.look(5), last.steps);
         Checks.due("look 6", house.look(6), p.witness.length());
         Checks.due("write", house.write(), bytes.length);
-        Checks.due("written", Checks.out(house), bytes);
+        out = bytes;
+        sameOut("written");
+        ready(200);
         String speech = Oracle.speech(p);
         Checks.due("speak", house.speak(), speech.length() > 8192 ? -1 : speech.length());
         if (speech.length() <= 8192) {
-            Checks.due("spoken", Checks.out(house), Checks.bytes(speech));
+            out = Checks.bytes(speech);
+            sameOut("spoken");
             house.again();
             Checks.due("said again", house.say(), 0);
-            Checks.due("as it was", Checks.out(house), bytes);
+            out = bytes;
+            sameOut("as it was");
         }
         for (Oracle.Node n : p.nodes) {
             checkNode(n);
@@ -472,6 +513,7 @@ public final class OracleTest {
     }
 
     private static void checkNode(Oracle.Node n) {
+        ready(100);
         int i = n.index;
         Checks.due("code", house.node(i, 0), n.code);
         Checks.due("first", house.node(i, 1), n.code == 12 ? n.number : n.a == null ? -1 : n.a.index);
@@ -493,8 +535,9 @@ public final class OracleTest {
             int length = n.code == 11 ? -2 : told == null ? -1 : told.length();
             Checks.due("type", house.type(i, side == 1), length);
             if (told != null) {
-                Checks.due("type's text", Checks.out(house), Checks.bytes(told));
+                out = Checks.bytes(told);
             }
+            sameOut("type's text");
             if (any(4) == 0) {
                 checkValue(n, t, side == 1);
             }
@@ -502,7 +545,7 @@ public final class OracleTest {
     }
 
     private static void checkValue(Oracle.Node n, Oracle.Type t, boolean target) {
-        byte[] before = Checks.out(house);
+        ready(350);
         if (n.code == 11) {
             Checks.feed(house, new byte[any(3)]);
             Checks.due("value of hidden", house.value(n.index, target), -2);
@@ -514,22 +557,27 @@ public final class OracleTest {
         Checks.feed(house, bytes);
         if (v == null) {
             Checks.due("no value", house.value(n.index, target), -4);
-            Checks.due("out stays", Checks.out(house), before);
+            sameOut("out stays");
             return;
         }
         String told = oracle.text(v, t);
         boolean fits = told.length() <= 8192;
         Checks.due("value", house.value(n.index, target), fits ? told.length() : -1);
-        Checks.due("value's text", Checks.out(house), fits ? Checks.bytes(told) : before);
+        out = fits ? Checks.bytes(told) : out;
+        sameOut("value's text");
         if (fits) {
-            Checks.feed(house, Checks.bytes(told));
+            house.again();
             Checks.due("worth", house.worth(n.index, target), bytes.length);
-            Checks.due("worth's bytes", Checks.out(house), bytes);
+            out = bytes;
+            sameOut("worth's bytes");
+        }
+        if (told.length() <= 600) {
             String bad = spoiltText(told);
             Checks.feed(house, Checks.bytes(bad));
             int answer = house.worth(n.index, target);
             if (answer != -4) {
-                Oracle.Value other = oracle.whole(Checks.out(house), t);
+                out = Checks.out(house);
+                Oracle.Value other = oracle.whole(out, t);
                 Checks.due("worth of " + bad, other != null && oracle.text(other, t).equals(bad));
             }
         }
@@ -543,15 +591,15 @@ public final class OracleTest {
     }
 
     private static void checkRun(Oracle.Prog p) {
+        ready(100);
         Oracle.Node last = p.last();
         byte[] bytes = Checks.bits(any(6) == 0 ? spoiltBits(randomValue(last.s)) : randomValue(last.s));
         Oracle.Value v = oracle.whole(bytes, last.s);
-        byte[] before = Checks.out(house);
         int steps = any(6) == 0 ? Math.max(1, house.look(5) - any(2)) : 1000000;
         int cells = any(6) == 0 ? Math.max(1, house.look(3) - any(2)) : 1000000;
         boolean defined = any(2) == 0;
         int want = -4;
-        byte[] given = before;
+        byte[] given = out;
         if (v != null) {
             want = -1;
             if (last.steps > steps || house.look(3) > cells || last.steps > 1000000) {
@@ -568,7 +616,8 @@ public final class OracleTest {
         int[] used = {house.look(11), house.look(12), house.look(13)};
         Checks.feed(house, bytes);
         Checks.due("run", house.run(steps, cells, defined), want);
-        Checks.due("run's value", Checks.out(house), given);
+        out = given;
+        sameOut("run's value");
         Checks.due("tape after run", house.look(7), 0);
         runs += want >= 0 ? 1 : 0;
         Checks.due("runs", house.look(10), runs);

@@ -1,4 +1,5 @@
 import java.util.ArrayList;
+import java.util.Arrays;
 import java.util.List;
 import java.util.NoSuchElementException;
 import java.util.Random;
@@ -12,9 +13,9 @@ public final class WildTest {
     }
 
     public static void main(String[] args) {
-        for (int i = 0; i < 400; i++) {
-            ComboHouse x = new ComboHouse();
-            for (int k = 0; k < 400; k++) {
+        for (int i = 0; i < 1500; i++) {
+            House x = new House();
+            while (x.left() > 12) {
                 call(x);
             }
         }
@@ -30,7 +31,7 @@ public final class WildTest {
         return any(3) == 0 ? ODD[any(ODD.length)] : any(12);
     }
 
-    private static void call(ComboHouse x) {
+    private static void call(House x) {
         int which = any(22);
         try {
             answer(x, which);
@@ -50,7 +51,7 @@ public final class WildTest {
         Checks.due("rows", x.look(7) <= 8192 && x.look(8) <= 8192);
     }
 
-    private static void answer(ComboHouse x, int which) {
+    private static void answer(House x, int which) {
         switch (which) {
             case 0:
                 x.feed(any(5) == 0 ? number() : 1 + any(8), RANDOM.nextLong());
@@ -106,34 +107,44 @@ public final class WildTest {
         }
     }
 
-    private static void longCall(ComboHouse x, int which) {
+    /** As much of it as the calls that are left can feed. */
+    private static void feed(House x, byte[] bytes) {
+        int most = Math.max(0, 8 * (x.left() - 8));
+        Checks.feed(x, bytes.length > most ? Arrays.copyOf(bytes, most) : bytes);
+    }
+
+    private static void longCall(House x, int which) {
         switch (which) {
             case 16:
-                Checks.say(x, speech());
+                feed(x, Checks.bytes(speech()));
+                x.say();
                 break;
             case 17:
-                Checks.load(x, program());
+                feed(x, program());
+                x.load();
                 break;
             case 18:
                 if (x.look(0) > 0) {
-                    Checks.feed(x, new byte[(x.look(1) + 7) / 8]);
+                    feed(x, new byte[(x.look(1) + 7) / 8]);
                     x.run(300000, 1000000, any(8) == 0);
                 }
                 break;
             case 19:
-                byte[] noise = new byte[any(3) == 0 ? 8192 : any(300)];
+                byte[] noise = new byte[any(3) == 0 ? 2000 : any(300)];
                 RANDOM.nextBytes(noise);
-                Checks.feed(x, noise);
+                feed(x, noise);
                 break;
             case 20:
-                Checks.say(x, speech());
+                feed(x, Checks.bytes(speech()));
+                x.say();
                 x.again();
                 x.load();
                 break;
             default:
                 byte[] spoilt = program();
                 spoilt[any(spoilt.length)] ^= (byte) (1 << any(8));
-                Checks.load(x, spoilt);
+                feed(x, spoilt);
+                x.load();
                 break;
         }
     }
@@ -144,7 +155,7 @@ public final class WildTest {
     /** Mostly well formed, and some as long as may be. */
     private static String speech() {
         StringBuilder s = new StringBuilder("a = ");
-        int length = any(4) == 0 ? 8000 : any(300);
+        int length = any(8) == 0 ? 3000 : any(300);
         int style = any(4);
         for (int name = 0; s.length() < length; name++) {
             int open = 1;
@@ -160,7 +171,7 @@ public final class WildTest {
             s.append("\nx").append(name).append(" = ");
         }
         String all = s + "unit";
-        return all.length() > 8192 ? all.substring(0, 8192) : all;
+        return all;
     }
 
     private static List<Oracle.Node> made;
@@ -189,34 +200,38 @@ public final class WildTest {
 
     /** As many nodes as may be made, each with as many types as may be. */
     private static void deepest() {
-        ComboHouse x = new ComboHouse();
-        String half = "case ".repeat(499) + "unit " + "unit ".repeat(499);
-        Checks.due("cases", Checks.say(x, "a = " + half + "b = pair a new a"), 4);
-        Checks.due("nodes", Checks.say(x, "a = " + half + "b = new a c = unit"), 0);
-        String fails = "a = " + "case ".repeat(499) + "fail " + "fail ".repeat(499);
-        Checks.due("cases of any", Checks.say(x, fails + "b = pair a new a") >= 0);
-        Checks.due("left", Checks.say(x, "a = " + "left ".repeat(1600) + "unit") >= 0);
-        Checks.due("takes", Checks.say(x, "a = " + "take ".repeat(999) + "iden b = new a"), 4);
-        StringBuilder s = new StringBuilder("x0 = iden ");
-        for (int i = 1; i < 399; i++) {
-            s.append("x").append(i).append("=pair x").append(i - 1).append(" x").append(i - 1).append(" ");
+        String half = "a = " + "case ".repeat(249) + "unit ".repeat(250) + "b = new a c = new a ";
+        Checks.due("cases", new House().say(half + "d = pair (pair a b) (pair c unit)"), 0);
+        Checks.due("nodes", new House().say(half + "d = new a e = unit"), 0);
+        String fails = "a = " + "case ".repeat(249) + "fail ".repeat(250) + "b = pair a new a c = pair b witness - ";
+        Checks.due("cases of any", new House().say(fails + "d = pair a new b") >= 0);
+        Checks.due("left", new House().say("a = " + "left ".repeat(700) + "unit"), 4);
+        Checks.due("takes", new House().say("a = " + "take ".repeat(499) + "iden b = new a c = new a d = new a"), 4);
+        Checks.due("takes of takes", new House().say("a = " + "take ".repeat(499) + "iden b = comp a new a"), 4);
+        StringBuilder s = new StringBuilder("a=iden ");
+        String last = "a";
+        for (int i = 1; i < 180; i++) {
+            String name = "x" + i;
+            s.append(name).append("=pair ").append(last).append(" ").append(last).append(" ");
+            last = name;
         }
-        Checks.due("pairs", Checks.say(x, s + "z = comp jet 0 x398"), 9);
-        Checks.due("pairs of nothing", Checks.build(x, s.toString()), 0);
+        Checks.due("pairs", new House().say(s + "z = comp jet 0 " + last), 9);
+        House x = House.ofBits(Bits.program(Rows.pairNodes(399)));
         Checks.due("root", x.root(398, 0) >= 0);
         Checks.due("type's root", x.typeRoot(398, true, 0) >= 0);
         Checks.due("value", x.value(398, true), -1);
         Checks.due("worth", x.worth(398, true), -4);
         Checks.due("type", x.type(398, true), -1);
         Checks.due("run", x.run(Integer.MAX_VALUE, Integer.MAX_VALUE, true), -2);
-        StringBuilder deep = new StringBuilder("x0 = unit ");
+        String[] drops = new String[398];
+        drops[0] = "8";
         for (int i = 1; i < 398; i++) {
-            deep.append("x").append(i).append("=drop x").append(i - 1).append(" ");
+            drops[i] = "6 1";
         }
-        Checks.due("drops", Checks.build(x, deep.toString()), 0);
-        Checks.due("value", x.value(397, false), 4 * 397 + 1);
-        x.again();
-        Checks.due("worth", x.worth(397, false), 0);
-        Checks.due("run", x.run(398, 1, false), 0);
+        House y = House.ofBits(Bits.program(drops));
+        Checks.due("value", y.value(397, false), 4 * 397 + 1);
+        y.again();
+        Checks.due("worth", y.worth(397, false), 0);
+        Checks.due("run", y.run(398, 1, false), 0);
     }
 }
