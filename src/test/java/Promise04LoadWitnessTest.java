@@ -24,6 +24,7 @@ public final class Promise04LoadWitnessTest {
         Checks.test("promise 4: the tape is used up", Promise04LoadWitnessTest::usedUp);
         Checks.test("promise 4: with an error the program stays", Promise04LoadWitnessTest::stays);
         Checks.test("promise 4: without one the program is the new one", Promise04LoadWitnessTest::isNew);
+        Checks.test("promise 4: again and again", Promise04LoadWitnessTest::againAndAgain);
         Checks.test("promise 4: a witness of 2048 bits", Promise04LoadWitnessTest::widest);
         Checks.end();
     }
@@ -246,6 +247,40 @@ public final class Promise04LoadWitnessTest {
         Checks.due("write", x.write(), 1);
         Checks.due("speak", x.speak(), 10);
         Checks.due("text", x.outBytes(), Checks.bytes("n0 = fail\n"));
+    }
+
+    /** Fifty HIDDEN nodes, loaded some hundred times: the last time is as the first. */
+    private static void againAndAgain() {
+        String[] told = new String[101];
+        told[0] = "8";
+        for (int i = 0; i < 50; i++) {
+            told[2 * i + 1] = "11 " + (1000 + i);
+            told[2 * i + 2] = "1 2 1";
+        }
+        House x = House.ofBits(Bits.program(told));
+        long root = x.root(100, 0);
+        int size = x.write();
+        while (x.left() > 20) {
+            x.again();
+            Checks.due("load", x.load(), 0);
+        }
+        Checks.due("root", x.root(100, 0), root);
+        Checks.due("a HIDDEN one", x.root(1, 7), 1000);
+        Checks.due("the last HIDDEN one", x.root(99, 7), 1049);
+        Checks.due("width", x.look(1), 50);
+        Checks.due("write", x.write(), size);
+        // by way of speeches
+        House y = House.ofBits(Bits.program(told));
+        size = y.look(8);
+        while (y.left() > 20) {
+            Checks.due("speak", y.speak() > 4000);
+            y.again();
+            Checks.due("say", y.say(), 0);
+            y.again();
+            Checks.due("load", y.load(), 0);
+        }
+        Checks.due("root", y.root(100, 0), root);
+        Checks.due("the last HIDDEN one", y.root(99, 7), 1049);
     }
 
     private static void widest() {

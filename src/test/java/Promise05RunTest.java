@@ -28,6 +28,9 @@ public final class Promise05RunTest {
         Checks.test("promise 5: OUT is the value and 0s up to a byte's end", Promise05RunTest::ends);
         Checks.test("promise 5: each combinator", Promise05RunTest::combinators);
         Checks.test("promise 5: 0s between", Promise05RunTest::zerosBetween);
+        Checks.test("promise 5: 0s between, from none to many", Promise05RunTest::manyZeros);
+        Checks.test("promise 5: 0s between, where 1s were before", Promise05RunTest::staleOnes);
+        Checks.test("promise 5: rows of all lengths, at all places", Promise05RunTest::manyLengths);
         Checks.test("promise 5: WITNESS nodes give their own bits", Promise05RunTest::witnesses);
         Checks.test("promise 5: 2048 bits", Promise05RunTest::widest);
         Checks.test("promise 5: 400 nodes deep", Promise05RunTest::deepest);
@@ -356,6 +359,89 @@ public final class Promise05RunTest {
         Checks.due("value", again.outBytes(), Checks.bits("1" + "0".repeat(64)));
         Checks.due("run", again.run("1" + "0".repeat(56) + "00000000", true), 9);
         Checks.due("value", again.outBytes(), Checks.bits("1" + "0".repeat(56) + "11111111"));
+    }
+
+    /** An E from so many bits, and from no more general type, to ONE. */
+    private static String force(int bits) {
+        if (bits == 1) {
+            return "comp (pair iden unit) case unit unit";
+        }
+        for (int jet = 95, wide = 64; jet >= 92; jet--, wide /= 2) {
+            if (bits == wide) {
+                return "comp jet " + jet + " unit";
+            }
+            if (bits > wide) {
+                return "comp (pair take (comp jet " + jet + " unit) drop (" + force(bits - wide) + ")) unit";
+            }
+        }
+        return "comp (pair take (" + force(1) + ") drop (" + force(bits - 1) + ")) unit";
+    }
+
+    private static final int[] LENGTHS = {1, 2, 3, 7, 8, 9, 30, 31, 32, 33, 34, 56, 57, 62, 63, 64, 65, 66, 67, 95, 97, 126, 127,
+        128, 129, 130, 191, 192, 193};
+
+    /** A bit that is inverted, beside so many bits in a sum, on the left and on the right. */
+    private static void manyZeros() {
+        String not = "n = comp (pair iden unit) case (right unit) (left unit) ";
+        for (int bits : LENGTHS) {
+            String zeros = "0".repeat(bits - 1);
+            House left = House.of(not + "s = comp (pair iden unit) case (take " + force(1) + ") (take " + force(bits) + ") "
+                    + "a = comp (comp n left iden) comp (pair iden s) take iden");
+            Checks.due("width", left.look(2), 1 + bits);
+            for (String bit : new String[] {"0", "1"}) {
+                String other = bit.equals("0") ? "1" : "0";
+                Checks.due("run", left.run(bit, false), (8 + bits) / 8);
+                Checks.due("left of " + bits, left.outBytes(), Checks.bits("0" + zeros + other));
+            }
+            House right = House.of(not + "s = comp (pair iden unit) case (take " + force(bits) + ") (take " + force(1) + ") "
+                    + "a = comp (comp n right iden) comp (pair iden s) take iden");
+            for (String bit : new String[] {"0", "1"}) {
+                String other = bit.equals("0") ? "1" : "0";
+                Checks.due("run", right.run(bit, false), (8 + bits) / 8);
+                Checks.due("right of " + bits, right.outBytes(), Checks.bits("1" + zeros + other));
+            }
+        }
+    }
+
+    /** A wide part of 1s leaves no 1s where a short part has 0s ahead of it. */
+    private static void staleOnes() {
+        for (int bits : LENGTHS) {
+            String force = "s = comp (pair iden unit) case (take " + force(1) + ") (take " + force(bits) + ") ";
+            String same = "f = comp (pair iden unit) case (take left iden) (take right iden) ";
+            House x = House.of(force + same + "a = comp f comp (pair iden s) comp take iden new f");
+            for (boolean defined : new boolean[] {false, true}) {
+                for (String in : new String[] {"1" + "1".repeat(bits), "0" + "0".repeat(bits - 1) + "1", "1" + "1".repeat(bits),
+                    "0" + "0".repeat(bits), "1" + "0".repeat(bits)}) {
+                    Checks.due("run", x.run(in, defined), (in.length() + 7) / 8);
+                    Checks.due("value", x.outBytes(), Checks.bits(in));
+                }
+            }
+        }
+    }
+
+    /** Two rows that change their places, and a witness between them. */
+    private static void manyLengths() {
+        java.util.Random random = new java.util.Random(41);
+        for (int one : LENGTHS) {
+            for (int two : new int[] {1, 5, 63, 64, 65, 100}) {
+                String a = row(random, one);
+                String b = row(random, two);
+                String w = row(random, one);
+                House x = House.of("f = " + force(one) + " g = " + force(two) + " v = comp (pair iden f) take iden "
+                        + "s = pair (drop comp (pair iden g) take iden) (pair (comp witness " + w + " v) take v)");
+                Checks.due("source", x.look(1), one + two);
+                Checks.due("run", x.run(a + b, false), (two + 2 * one + 7) / 8);
+                Checks.due("value", x.outBytes(), Checks.bits(b + w + a));
+            }
+        }
+    }
+
+    private static String row(java.util.Random random, int bits) {
+        StringBuilder s = new StringBuilder();
+        for (int i = 0; i < bits; i++) {
+            s.append(random.nextInt(2));
+        }
+        return s.toString();
     }
 
     private static void witnesses() {

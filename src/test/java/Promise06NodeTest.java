@@ -22,6 +22,7 @@ public final class Promise06NodeTest {
         Checks.test("promise 6: bounds of CASE, without HIDDEN ones", Promise06NodeTest::hiddenCases);
         Checks.test("promise 6: bounds of PAIR", Promise06NodeTest::pairs);
         Checks.test("promise 6: bounds of COMP", Promise06NodeTest::comps);
+        Checks.test("promise 6: an earlier program's are gone", Promise06NodeTest::earlier);
         Checks.test("promise 6: no bound above 2147483647", Promise06NodeTest::most);
         Checks.test("promise 6: bounds that would wrap around", Promise06NodeTest::wrap);
         Checks.end();
@@ -250,6 +251,23 @@ public final class Promise06NodeTest {
         // no bits between are no cells, but a frame
         House u = House.of("a = comp unit fail");
         bounds(u, 2, 0, 1, 3);
+    }
+
+    /** Loads several programs in turn: what the same numbers told before does not come back. */
+    private static void earlier() {
+        String[] programs = {Bits.program("12 123", "8", "0 2 1", "3 1", "4 1", "2 1 2"),
+            Bits.program("8", "3 1", "9", "2 2 1", "3 1", "4 1"), Bits.program("10", "3 1", "10", "2 2 1", "3 1", "4 1")};
+        int[][][] want = {{{0, 0, 65}, {0, 0, 1}, {64, 1, 67}, {64, 1, 68}, {64, 1, 69}, {64, 1, 138}},
+            {{0, 0, 1}, {0, 0, 2}, {0, 0, 1}, {0, 0, 4}, {0, 0, 5}, {0, 0, 6}},
+            {{0, 0, 1}, {0, 0, 2}, {0, 0, 1}, {0, 0, 4}, {0, 0, 5}, {0, 0, 6}}};
+        House x = new House();
+        for (int which : new int[] {0, 1, 2, 0, 0, 1, 1, 2, 0, 2, 1, 0}) {
+            Checks.due("load", x.load(programs[which]), 0);
+            for (int i = 0; i < 6; i++) {
+                bounds(x, i, want[which][i][0], want[which][i][1], want[which][i][2]);
+            }
+        }
+        Checks.due("types too", x.node(0, 4) + " " + x.node(1, 3) + " " + x.node(5, 4), "64 64 3");
     }
 
     private static void most() {

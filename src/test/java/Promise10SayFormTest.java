@@ -13,6 +13,7 @@ public final class Promise10SayFormTest {
         Checks.test("promise 10: definitions, one at least", Promise10SayFormTest::definitions);
         Checks.test("promise 10: the place is the text's end, if there is no word", Promise10SayFormTest::end);
         Checks.test("promise 10: a NAME, 8 of all at most", Promise10SayFormTest::names);
+        Checks.test("promise 10: many names, each one found", Promise10SayFormTest::manyNames);
         Checks.test("promise 10: a NAME is no word of the tongue", Promise10SayFormTest::tongue);
         Checks.test("promise 10: error 2, not told before", Promise10SayFormTest::notTold);
         Checks.test("promise 10: error 2, told again", Promise10SayFormTest::toldAgain);
@@ -167,6 +168,22 @@ public final class Promise10SayFormTest {
         Says.wrong("abcdefgh = unit a = ^bbcdefgh", 2);
         Says.fine("abcdefgh = unit abcdefgi = unit bbcdefgh = unit abcdefg = unit");
         Says.fine("a = unit a0 = unit a00 = unit");
+    }
+
+    private static void manyNames() {
+        StringBuilder told = new StringBuilder();
+        StringBuilder used = new StringBuilder();
+        for (int i = 0; i < 140; i++) {
+            String name = (char) ('a' + i * 7 % 26) + "" + i;
+            told.append(name).append(i % 2 == 0 ? "=unit " : "=iden ");
+            used.append("pair ").append(name).append(" ");
+        }
+        Says.fine(told + "z=" + used + "unit");
+        for (int i = 0; i < 140; i += 3) {
+            String name = (char) ('a' + i * 7 % 26) + "" + i;
+            Says.due(told + name + "=unit", 2, told.length());
+            Says.fine(told + "z=pair " + name + " fail");
+        }
     }
 
     private static final String[] TONGUE = {"iden", "unit", "fail", "take", "drop", "left", "right", "comp", "pair", "case",

@@ -189,6 +189,11 @@ public final class Promise10SayMakingTest {
 
     private static void becomeOne() {
         Says.same("a = pair unit unit", "u = unit a = pair u u");
+        Says.same("b = unit c = unit a = pair c b", "u = unit a = pair u u");
+        Says.same("b = unit c = unit a = pair b c", "u = unit a = pair u u");
+        Says.same("b = left unit c = left unit d = left unit a = pair d pair c b", "u = left unit a = pair u pair u u");
+        Says.same("b = unit c = unit d = left b a = pair c d", "u = unit a = pair u left u");
+        Says.same("b = unit c = unit d = pair b iden a = pair c d", "u = unit a = pair u pair u iden");
         Says.same("a = pair iden iden", "u = iden a = pair u u");
         Says.same("a = pair fail fail", "u = fail a = pair u u");
         Says.same("a = pair jet 7 jet 7", "u = jet 7 a = pair u u");

@@ -132,6 +132,11 @@ public final class Promise14WorthTest {
         String other = "b = left unit c = pair b b a = pair c pair c c";
         House y = House.of(other);
         due(y, 4, "((1,0),#9)", "101001");
+        String third = "b = left unit c = pair b b a = pair (pair c c) pair jet 120 unit";
+        House z = House.of(third);
+        int last = z.look(0) - 1;
+        due(z, last, "(#a,(#bc,U))", "101010111100");
+        none(z, third, last, "(#ab,U))", "(#ab,(#cd,U))", "(#a,#bc,U)", "(#a,(#b,U))", "(#a,(#bcd,U))", "#abc", "(#abc,U)");
         none(y, other, 4, "((1,0),((1,0),(0,1)))", "(#2,#9)", "#29", "((1,0),9)", "((1,0)#9)");
     }
 

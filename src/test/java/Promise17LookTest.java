@@ -15,6 +15,7 @@ public final class Promise17LookTest {
         Checks.test("promise 17: 9, the latest load's error", Promise17LookTest::error);
         Checks.test("promise 17: 10, runs that gave a value", Promise17LookTest::runs);
         Checks.test("promise 17: 11 to 13, used by the latest that was not defined", Promise17LookTest::used);
+        Checks.test("promise 17: 11 to 13, without CASE those of the bounds", Promise17LookTest::usedByAll);
         Checks.test("promise 17: 11 to 13, of CASE the child that was worked", Promise17LookTest::usedByCase);
         Checks.test("promise 17: 11 to 13, a node that is worked several times", Promise17LookTest::usedManyTimes);
         Checks.test("promise 17: 11 to 13, of any program", Promise17LookTest::usedOfAny);
@@ -191,6 +192,24 @@ public final class Promise17LookTest {
         House z = House.of("a = comp unit (comp iden unit)");
         Checks.due("run", z.run(100, 100, false), 0);
         used(z, 0, 4, 5);
+    }
+
+    private static void usedByAll() {
+        String[] speeches = {"a = unit", "a = iden", "a = witness -", "a = jet 123", "a = comp witness 00001111 jet 92",
+            "a = comp jet 120 iden", "a = left jet 120", "a = right jet 120", "a = take jet 120", "a = drop jet 120",
+            "a = pair jet 120 jet 123", "a = pair (comp jet 123 unit) comp unit jet 120", "a = comp unit unit",
+            "a = comp (comp jet 123 unit) comp jet 120 (comp iden unit)", "a = pair unit witness -",
+            "a = comp pair jet 120 jet 120 (comp jet 0 drop jet 92)", "a = comp (pair left unit unit) case unit unit"};
+        int[][] want = {{0, 2, 1}, {0, 2, 1}, {0, 2, 1}, {64, 2, 65}, {16, 3, 27}, {16, 3, 19}, {9, 2, 10}, {9, 2, 10},
+            {8, 2, 10}, {8, 2, 10}, {72, 2, 75}, {72, 3, 67 + 11 + 1}, {0, 3, 3}, {64, 5, 67 + (9 + (9 + 1 + 1) + 1) + 1},
+            {0, 2, 3}, {8 + 16 + 9, 4, 19 + (26 + 18 + 1) + 1}, {1, 3, 1 + 4 + 2}};
+        for (int i = 0; i < speeches.length; i++) {
+            House x = House.of(speeches[i]);
+            Checks.due("bounds of " + speeches[i], x.look(3) + " " + x.look(4) + " " + x.look(5),
+                    want[i][0] + " " + want[i][1] + " " + want[i][2]);
+            Checks.due("run", x.run(1000, 1000, false) >= 0);
+            used(x, want[i][0], want[i][1], want[i][2]);
+        }
     }
 
     private static void usedByCase() {
