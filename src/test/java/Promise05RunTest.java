@@ -450,6 +450,18 @@ public final class Promise05RunTest {
         Checks.due("bits", x.look(6), 24);
         Checks.due("run", x.run(1000, 1000, false), 4);
         Checks.due("value", x.outBytes(), Checks.bits("11111101" + "11111110" + "11111110" + "00000000"));
+        // short ones ahead of a bit that is read behind them
+        String not = "n = comp (pair iden unit) case (right unit) (left unit) ";
+        for (int bits : LENGTHS) {
+            for (String row : new String[] {"0".repeat(bits), "1".repeat(bits)}) {
+                House y = House.of(not + "g = comp (pair iden pair take (" + force(bits) + ") drop " + force(1)
+                        + ") take iden a = comp (comp n pair witness " + row + " iden) g");
+                Checks.due("run", y.run("0", false), bits / 8 + 1);
+                Checks.due("value", y.outBytes(), Checks.bits(row + "1"));
+                Checks.due("run", y.run("1", false), bits / 8 + 1);
+                Checks.due("value", y.outBytes(), Checks.bits(row + "0"));
+            }
+        }
         House wide = House.of("a = comp witness " + "01".repeat(32) + " jet 95 b = comp witness " + "1".repeat(32)
                 + " jet 94 c = pair a b");
         Checks.due("run", wide.run(1000, 1000, true), 12);

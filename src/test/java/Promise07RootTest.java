@@ -19,6 +19,7 @@ public final class Promise07RootTest {
         Checks.test("promise 7: with two children", Promise07RootTest::twoChildren);
         Checks.test("promise 7: types and witness bits do not count", Promise07RootTest::withoutTypes);
         Checks.test("promise 7: a HIDDEN one stands for what has its bits as root", Promise07RootTest::pruned);
+        Checks.test("promise 7: each node of a program with all kinds", Promise07RootTest::allKinds);
         Checks.test("promise 7: of the loaded program alone", Promise07RootTest::ofTheLoaded);
         Checks.test("promise 7: 400 nodes", Promise07RootTest::deepest);
         Checks.end();
@@ -162,6 +163,25 @@ public final class Promise07RootTest {
         House y = House.of("a = comp (pair iden unit) case (take left unit) hidden " + hex);
         for (int k = 0; k < 8; k++) {
             Checks.due("the same root", y.root(y.look(0) - 1, k), x.root(last, k));
+        }
+    }
+
+    /** Leaves stand behind nodes with children, jets behind both. */
+    private static void allKinds() {
+        String speech = "u = unit p = pair iden (pair u (pair witness - fail)) d = drop take right left p "
+                + "c = case d (hidden " + "0123456789abcdef".repeat(4) + ") q = comp c comp unit jet 120 "
+                + "r = pair q (comp unit jet 123) s = pair r fail";
+        House x = House.of(speech);
+        Oracle.Prog p = new Oracle().load(new Oracle().say(Checks.bytes(speech)));
+        Checks.due("nodes", x.look(0), p.nodes.size());
+        for (int i = 0; i < p.nodes.size(); i++) {
+            due("node " + i, x, i, Oracle.root(p.nodes.get(i)));
+        }
+        // from the last one on: what is asked first does not matter
+        House y = House.of(speech);
+        for (int i = p.nodes.size() - 1; i >= 0; i--) {
+            Checks.due("word 7 of " + i, y.root(i, 7), Oracle.root(p.nodes.get(i))[7] & 0xffffffffL);
+            Checks.due("word 0 of " + i, y.root(i, 0), Oracle.root(p.nodes.get(i))[0] & 0xffffffffL);
         }
     }
 

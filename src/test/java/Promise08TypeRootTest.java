@@ -18,6 +18,7 @@ public final class Promise08TypeRootTest {
         Checks.test("promise 8: what stays open is ONE", Promise08TypeRootTest::open);
         Checks.test("promise 8: words up to 2048 bits", Promise08TypeRootTest::words);
         Checks.test("promise 8: types that no text has room for", Promise08TypeRootTest::vast);
+        Checks.test("promise 8: each node of a program with all kinds", Promise08TypeRootTest::allKinds);
         Checks.test("promise 8: of the loaded program alone", Promise08TypeRootTest::ofTheLoaded);
         Checks.end();
     }
@@ -150,6 +151,29 @@ public final class Promise08TypeRootTest {
             want = i % 2 == 0 ? product(want, ONE) : product(ONE, want);
         }
         due("the last source", y, 399, false, want);
+    }
+
+    private static void allKinds() {
+        String speech = "u = unit p = pair iden (pair u (pair witness - fail)) d = drop take right left p "
+                + "c = case d (hidden " + "0123456789abcdef".repeat(4) + ") q = comp c comp unit jet 120 "
+                + "r = pair q (comp unit jet 123) s = comp r take jet 92";
+        for (String told : new String[] {speech, "a = comp jet 0 (pair take iden drop jet 92)",
+            "a = case jet 0 (comp jet 96 (pair left unit iden))"}) {
+            House x = House.of(told);
+            Oracle oracle = new Oracle();
+            Oracle.Prog p = oracle.load(new Oracle().say(Checks.bytes(told)));
+            for (int i = 0; i < p.nodes.size() && x.left() > 20; i++) {
+                Oracle.Node n = p.nodes.get(i);
+                for (int k = 0; k < 8; k++) {
+                    Checks.due("source of " + i, x.typeRoot(i, false, k),
+                            n.code == 11 ? 0 : oracle.typeRoot(n.s)[k] & 0xffffffffL);
+                    Checks.due("target of " + i, x.typeRoot(i, true, k),
+                            n.code == 11 ? 0 : oracle.typeRoot(n.t)[k] & 0xffffffffL);
+                }
+                // a node's root in between does not spoil the next type's
+                Checks.due("root of " + i, x.root(i, i % 8), Oracle.root(n)[i % 8] & 0xffffffffL);
+            }
+        }
     }
 
     private static void ofTheLoaded() {

@@ -7,6 +7,7 @@ public final class Promise11SpeakTest {
         Checks.test("promise 11: no program", Promise11SpeakTest::noProgram);
         Checks.test("promise 11: a line of each code", Promise11SpeakTest::lines);
         Checks.test("promise 11: numbers without 0s ahead", Promise11SpeakTest::numbers);
+        Checks.test("promise 11: all lines of 400 nodes", Promise11SpeakTest::fourHundred);
         Checks.test("promise 11: HIDDEN, 64 digits", Promise11SpeakTest::hidden);
         Checks.test("promise 11: WITNESS, its row, or - for none", Promise11SpeakTest::witness);
         Checks.test("promise 11: 8192 bytes and 8193", Promise11SpeakTest::longest);
@@ -59,6 +60,31 @@ public final class Promise11SpeakTest {
             want.append("n").append(i).append(" = take n").append(i - 1).append("\n");
         }
         due(House.ofBits(Bits.program(told)), want.toString());
+    }
+
+    /** All 400 lines, read by two objects, for one has too few calls. */
+    private static void fourHundred() {
+        String[] told = new String[400];
+        StringBuilder want = new StringBuilder("n0 = unit\n");
+        told[0] = "8";
+        for (int i = 1; i < 400; i++) {
+            told[i] = i % 2 == 0 ? "5 1" : "6 1";
+            want.append("n").append(i).append(i % 2 == 0 ? " = take n" : " = drop n").append(i - 1).append("\n");
+        }
+        byte[] bytes = Checks.bytes(want.toString());
+        for (int half = 0; half < 2; half++) {
+            House x = House.ofBits(Bits.program(told));
+            Checks.due("speak", x.speak(), bytes.length);
+            int from = half == 0 ? 0 : bytes.length / 16 * 8;
+            int to = half == 0 ? bytes.length / 16 * 8 : bytes.length;
+            for (int k = from; k < to; k += 8) {
+                long eight = 0;
+                for (int i = 7; i >= 0; i--) {
+                    eight = eight << 8 | (k + i < bytes.length ? bytes[k + i] & 255 : 0);
+                }
+                Checks.due("text from " + k, x.out(k), eight);
+            }
+        }
     }
 
     private static void hidden() {
