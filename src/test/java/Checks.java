@@ -19,7 +19,7 @@ final class Checks {
     /** A call that never ends is an answer that is not due, too. */
     private static void endLate() {
         try {
-            Thread.sleep(600000);
+            Thread.sleep(200000);
         } catch (InterruptedException e) {
             return;
         }
